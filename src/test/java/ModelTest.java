@@ -16,6 +16,7 @@ final class ModelTest {
     private static final int[] ENDS = new int[8];
     private static int faults;
     private static int wentBack;
+    private static int manyWords;
 
     public static void main(String[] args) {
         for (int seed = 0; seed < RUNS && !ANSWERS.isWrong(); seed++) {
@@ -26,25 +27,28 @@ final class ModelTest {
             ANSWERS.due("best ended often enough with " + end, ENDS[4 + end] > 300, true);
         }
         ANSWERS.due("check found faults often enough", faults > 200, true);
+        ANSWERS.due("fillings of many words often enough", manyWords > 300, true);
         ANSWERS.due("searches went back often enough", wentBack > 100, true);
         ANSWERS.end();
     }
 
     private static void oneRun(int seed) {
         Random random = new Random(seed);
-        int width = random.nextInt(8);
-        int height = random.nextInt(8);
+        // Each third run has a small grid and many letters, so that most of 80 words may be used.
+        boolean isSmall = seed % 3 == 0;
+        int width = random.nextInt(isSmall ? 4 : 8);
+        int height = random.nextInt(isSmall ? 4 : 8);
         GridFills fills = new GridFills(width, height);
         Model model = new Model(width, height);
-        int letters = 1 + random.nextInt(4);
+        int letters = isSmall ? 6 + random.nextInt(5) : 1 + random.nextInt(4);
         boolean scoresAlike = random.nextBoolean();
-        int blacks = random.nextInt(30);
+        int blacks = random.nextInt(isSmall ? 10 : 30);
         for (int i = 0; i < blacks; i++) {
             int x = random.nextInt(7) - 1;
             int y = random.nextInt(7) - 1;
             ANSWERS.due("black", fills.black(x, y, true), model.black(x, y, true));
         }
-        int texts = random.nextInt(81);
+        int texts = isSmall ? 80 + random.nextInt(20) : random.nextInt(81);
         for (int i = 0; i < texts; i++) {
             addWord(random, fills, model, letters, scoresAlike);
         }
@@ -57,7 +61,8 @@ final class ModelTest {
     }
 
     private static void addWord(Random random, GridFills fills, Model model, int letters, boolean scoresAlike) {
-        int length = random.nextInt(20) == 0 ? random.nextInt(9) : 2 + random.nextInt(random.nextInt(5) + 1);
+        int lengths = letters > 5 ? 2 : random.nextInt(5) + 1;
+        int length = random.nextInt(20) == 0 ? random.nextInt(9) : 2 + random.nextInt(lengths);
         for (int i = 0; i < length; i++) {
             int u = random.nextInt(200) == 0 ? random.nextInt(130) : 'a' + random.nextInt(letters);
             ANSWERS.due("unit(" + u + ")", fills.unit(u), model.unit(u));
@@ -107,7 +112,7 @@ final class ModelTest {
 
     private static void search(Random random, GridFills fills, Model model) {
         int limit = random.nextInt(20) == 0 ? random.nextInt(50000) - 20000
-                : random.nextBoolean() ? random.nextInt(30) : random.nextInt(800);
+                : random.nextBoolean() ? random.nextInt(30) : random.nextInt(3000);
         boolean all = random.nextBoolean();
         int end = all ? model.best(limit) : model.run(limit);
         ANSWERS.due("search " + all + " " + limit, all ? fills.best(limit) : fills.run(limit), end);
@@ -116,6 +121,9 @@ final class ModelTest {
         }
         if (!all && end == 0 && model.steps > model.slots.size()) {
             wentBack++;
+        }
+        if (end == 0 && model.words.size() > 70) {
+            manyWords++;
         }
         ANSWERS.due("steps", fills.steps(), model.steps);
         ANSWERS.due("many", fills.many(), model.many);

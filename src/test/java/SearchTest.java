@@ -17,6 +17,7 @@ final class SearchTest {
         searchDropsWhatWasFound();
         letters();
         manySlots();
+        manyWords();
         ANSWERS.end();
     }
 
@@ -267,5 +268,32 @@ final class SearchTest {
         ANSWERS.due("run", fills.run(22), 0);
         ANSWERS.due("steps", fills.steps(), 22);
         ANSWERS.due("run", fills.run(21), 2);
+    }
+
+    private static void manyWords() {
+        // Eight first letters, ten words each, and two slots that share their first cell.
+        GridFills fills = Answers.grid("..", ".#");
+        for (int number = 0; number < 80; number++) {
+            String text = "" + (char) ('a' + number / 10) + (char) ('a' + number % 10);
+            ANSWERS.due("word", Answers.word(fills, text, 100 - number), number);
+        }
+        ANSWERS.due("best", fills.best(20000), 0);
+        ANSWERS.due("many", fills.many(), 8 * 10 * 9);
+        ANSWERS.due("steps", fills.steps(), 80 + 8 * 10 * 9);
+        ANSWERS.due("score", fills.score(), 100 + 99);
+        for (int first = 0; first < 8; first++) {
+            fills.given(0, 0, 'a' + first);
+            ANSWERS.due("candidates", fills.slot(1, 4), 10);
+            ANSWERS.due("best", fills.best(20000), 0);
+            ANSWERS.due("many", fills.many(), 10 * 9);
+            ANSWERS.due("steps", fills.steps(), 10 + 10 * 9);
+            ANSWERS.due("slot 0", fills.slot(0, 5), 10 * first);
+            ANSWERS.due("slot 1", fills.slot(1, 5), 10 * first + 1);
+            fills.given(1, 0, 'j');
+            ANSWERS.due("run", fills.run(2), 0);
+            ANSWERS.due("slot 0", fills.slot(0, 5), 10 * first + 9);
+            ANSWERS.due("slot 1", fills.slot(1, 5), 10 * first);
+            fills.given(1, 0, 0);
+        }
     }
 }

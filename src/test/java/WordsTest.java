@@ -101,6 +101,7 @@ final class WordsTest {
         ANSWERS.due("many", fills.many(), 80);
         ANSWERS.due("score", fills.score(), 79);
         ANSWERS.due("word", fills.slot(0, 5), 79);
+        ANSWERS.due("no word has this number", fills.theme(0, 80), false);
         ANSWERS.due("theme of the least score", fills.theme(0, 0), true);
         ANSWERS.due("run", fills.run(1), 0);
         ANSWERS.due("word", fills.slot(0, 5), 0);
