@@ -20,9 +20,9 @@ final class FaceTest {
         answers.due("public and final", GridFills.class.getModifiers(), Modifier.PUBLIC | Modifier.FINAL);
         answers.due("constructors", GridFills.class.getDeclaredConstructors().length, 1);
         for (Constructor<?> made : GridFills.class.getConstructors()) {
-            answers.dueText("constructor", Arrays.toString(made.getParameterTypes()), "[int, int]");
+            answers.due("constructor", Arrays.toString(made.getParameterTypes()), "[int, int]");
         }
-        answers.dueText("methods", visibleMethods().toString(), new TreeSet<>(Arrays.asList(FACE)).toString());
+        answers.due("methods", visibleMethods().toString(), new TreeSet<>(Arrays.asList(FACE)).toString());
         for (Field field : GridFills.class.getDeclaredFields()) {
             answers.due(field.getName() + " is private", Modifier.isPrivate(field.getModifiers()), true);
         }

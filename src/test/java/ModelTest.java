@@ -9,8 +9,10 @@ import java.util.Random;
  */
 final class ModelTest {
     private static final Answers ANSWERS = new Answers();
-    private static final int RUNS = 400;
+    private static final int RUNS = 4000;
     private static final int CALLS = 512;
+    // A search is asked of each slot at once.
+    private static final int MOST_CALLS_AT_ONCE = 30;
 
     // How often each search ended how, so that the runs are known to come to all of it.
     private static final int[] ENDS = new int[8];
@@ -34,6 +36,7 @@ final class ModelTest {
 
     private static void oneRun(int seed) {
         Random random = new Random(seed);
+        int before = ANSWERS.asked();
         // Each third run has a small grid and many letters, so that most of 80 words may be used.
         boolean isSmall = seed % 3 == 0;
         int width = random.nextInt(isSmall ? 4 : 8);
@@ -52,7 +55,7 @@ final class ModelTest {
         for (int i = 0; i < texts; i++) {
             addWord(random, fills, model, letters, scoresAlike);
         }
-        for (int i = 0; i < CALLS - blacks && !ANSWERS.isWrong(); i++) {
+        while (ANSWERS.asked() - before <= CALLS - MOST_CALLS_AT_ONCE && !ANSWERS.isWrong()) {
             oneCall(random, fills, model, letters, scoresAlike);
         }
         if (ANSWERS.isWrong()) {
@@ -86,7 +89,8 @@ final class ModelTest {
                 addWord(random, fills, model, letters, scoresAlike);
                 break;
             case 2:
-                int u = random.nextInt(10) == 0 ? random.nextInt(130) : random.nextInt(5) > 0 ? 0 : 'a' + random.nextInt(letters);
+                int letter = random.nextInt(5) > 0 ? 0 : 'a' + random.nextInt(letters);
+                int u = random.nextInt(10) == 0 ? random.nextInt(130) : letter;
                 ANSWERS.due("given " + u, fills.given(x, y, u), model.given(x, y, u));
                 check(fills, model);
                 break;

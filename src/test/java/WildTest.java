@@ -11,8 +11,8 @@ final class WildTest {
         for (int seed = 0; seed < 300; seed++) {
             wildRun(new Random(seed));
         }
-        dearest(0);
-        dearest(20);
+        dearest(false);
+        dearest(true);
         ANSWERS.end();
     }
 
@@ -64,17 +64,17 @@ final class WildTest {
     }
 
     /** Many words over few letters: each search goes to its last step. */
-    private static void dearest(int blacks) {
+    private static void dearest(boolean isCut) {
         Random random = new Random(7);
         GridFills fills = new GridFills(6, 6);
-        for (int i = 0; i < 80; i++) {
+        for (int i = 0; i < (isCut ? 80 : 50); i++) {
             StringBuilder text = new StringBuilder();
-            for (int place = 0; place < (blacks > 0 ? 2 : 6); place++) {
-                text.append((char) ('a' + random.nextInt(blacks > 0 ? 9 : 2)));
+            for (int place = 0; place < (isCut ? 2 : 6); place++) {
+                text.append((char) ('a' + random.nextInt(isCut ? 9 : 2)));
             }
-            Answers.word(fills, text.toString(), random.nextInt(3));
+            Grids.word(fills, text.toString(), random.nextInt(3));
         }
-        for (int cell = 0; cell < 36 && blacks > 0; cell++) {
+        for (int cell = 0; cell < 36 && isCut; cell++) {
             if (cell % 3 == (cell / 6) % 3) {
                 fills.black(cell % 6, cell / 6, true);
             }
